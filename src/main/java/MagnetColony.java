@@ -153,7 +153,7 @@ public final class MagnetColony {
     }
 
     public boolean canSettle() {
-        return survey.canGivePoles();
+        return survey.bestTurnSet() != NONE;
     }
 
     public boolean canSettleByUnions() {
@@ -248,9 +248,15 @@ public final class MagnetColony {
             throw new IllegalArgumentException("the text does not match the grammar");
         }
         beforeText.copyFrom(colony);
-        if (!carryOutText()) {
-            colony.copyFrom(beforeText);
-            throw new UnsupportedOperationException("a command failed");
+        for (int index = 0; index < text.commandCount; index++) {
+            Command command = text.commands[index];
+            int refusal = changes.judge(command.kind, command.first, command.second);
+            if (refusal != ALLOWED) {
+                colony.copyFrom(beforeText);
+                keepDenial(COMMAND_FAILED, index, causeOf(refusal));
+                throw new UnsupportedOperationException("a command failed");
+            }
+            changes.carryOut(command.kind, command.first, command.second, command.third);
         }
         history.push(beforeText);
         return text.commandCount;
@@ -343,17 +349,8 @@ public final class MagnetColony {
         throw new UnsupportedOperationException("the call is denied");
     }
 
-    private boolean carryOutText() {
-        for (int index = 0; index < text.commandCount; index++) {
-            Command command = text.commands[index];
-            int refusal = changes.judge(command.kind, command.first, command.second);
-            if (refusal != ALLOWED) {
-                keepDenial(COMMAND_FAILED, index, refusal < COMMAND_FAILED ? refusal : OTHER_EXCEPTION);
-                return false;
-            }
-            changes.carryOut(command.kind, command.first, command.second, command.third);
-        }
-        return true;
+    private static int causeOf(int refusal) {
+        return refusal < COMMAND_FAILED ? refusal : OTHER_EXCEPTION;
     }
 
     private void keepDenial(int number, int detail, int cause) {
@@ -370,6 +367,10 @@ public final class MagnetColony {
 
     private static boolean isStrength(int strength) {
         return strength >= 1 && strength <= MAX_STRENGTH;
+    }
+
+    private static boolean isIn(int set, int magnet) {
+        return ((set >> magnet) & 1) == 1;
     }
 
     private static void requirePosition(int position) {
@@ -408,8 +409,9 @@ public final class MagnetColony {
         int magnets;
         final int[] positions = new int[MAX_MAGNETS];
         final int[] strengths = new int[MAX_MAGNETS];
-        final boolean[] norths = new boolean[MAX_MAGNETS];
         final int[] turns = new int[MAX_MAGNETS];
+        // A set of magnets has a bit for each, so that a turn set is turned at one stroke.
+        int norths;
         int tunnels;
         final int[] firsts = new int[MAX_TUNNELS];
         final int[] seconds = new int[MAX_TUNNELS];
@@ -420,8 +422,8 @@ public final class MagnetColony {
             magnets = other.magnets;
             System.arraycopy(other.positions, 0, positions, 0, MAX_MAGNETS);
             System.arraycopy(other.strengths, 0, strengths, 0, MAX_MAGNETS);
-            System.arraycopy(other.norths, 0, norths, 0, MAX_MAGNETS);
             System.arraycopy(other.turns, 0, turns, 0, MAX_MAGNETS);
+            norths = other.norths;
             tunnels = other.tunnels;
             System.arraycopy(other.firsts, 0, firsts, 0, MAX_TUNNELS);
             System.arraycopy(other.seconds, 0, seconds, 0, MAX_TUNNELS);
@@ -468,7 +470,7 @@ public final class MagnetColony {
         }
 
         char poleSign(int magnet) {
-            return norths[magnet] ? 'n' : 's';
+            return isIn(norths, magnet) ? 'n' : 's';
         }
 
         int sumOfStrengths() {
@@ -479,13 +481,14 @@ public final class MagnetColony {
             return sum;
         }
 
-        int place(int position, int strength, boolean isNorth) {
+        int place(int position, int strength, boolean north) {
             int magnet = magnets;
             positions[magnet] = position;
             strengths[magnet] = strength;
-            norths[magnet] = isNorth;
-            // An undone magnet may have left its account in this row.
             turns[magnet] = 0;
+            if (north) {
+                norths |= 1 << magnet;
+            }
             magnets++;
             return magnet;
         }
@@ -496,21 +499,26 @@ public final class MagnetColony {
             return before;
         }
 
-        void turnOver(int magnet) {
-            norths[magnet] = !norths[magnet];
-            turns[magnet]++;
-            allTurns++;
-        }
-
         int turnFrom(int position) {
-            int turned = 0;
+            int set = 0;
             for (int magnet = 0; magnet < magnets; magnet++) {
                 if (positions[magnet] >= position) {
-                    turnOver(magnet);
-                    turned++;
+                    set |= 1 << magnet;
                 }
             }
-            return turned;
+            return turnSet(set);
+        }
+
+        int turnSet(int set) {
+            for (int magnet = 0; magnet < magnets; magnet++) {
+                if (isIn(set, magnet)) {
+                    turns[magnet]++;
+                }
+            }
+            norths ^= set;
+            int size = Integer.bitCount(set);
+            allTurns += size;
+            return size;
         }
 
         int tunnelBetween(int magnet, int other) {
@@ -530,15 +538,21 @@ public final class MagnetColony {
         }
 
         boolean hasUnlikePoles(int tunnel) {
-            return norths[firsts[tunnel]] != norths[seconds[tunnel]];
+            return !isBlockedWith(norths, tunnel);
+        }
+
+        boolean isBlockedWith(int itsNorths, int tunnel) {
+            return (((itsNorths >> firsts[tunnel]) ^ (itsNorths >> seconds[tunnel])) & 1) == 0;
         }
 
         int countBlocked() {
+            return countBlockedWith(norths);
+        }
+
+        int countBlockedWith(int itsNorths) {
             int count = 0;
             for (int tunnel = 0; tunnel < tunnels; tunnel++) {
-                if (!hasUnlikePoles(tunnel)) {
-                    count++;
-                }
+                count += isBlockedWith(itsNorths, tunnel) ? 1 : 0;
             }
             return count;
         }
@@ -569,8 +583,7 @@ public final class MagnetColony {
         private final int[] distances = new int[MAX_MAGNETS];
         private final int[] numbers = new int[MAX_MAGNETS];
         private final int[] lowest = new int[MAX_MAGNETS];
-        private final int[] partOf = new int[MAX_MAGNETS];
-        private final boolean[] givenNorth = new boolean[MAX_MAGNETS];
+        private int givenNorths;
         private int lastNumber;
         private int bridgesFound;
 
@@ -685,48 +698,6 @@ public final class MagnetColony {
             return count;
         }
 
-        boolean canGivePoles() {
-            givePoles();
-            return givenPolesFit();
-        }
-
-        private void givePoles() {
-            Arrays.fill(partOf, NONE);
-            for (int magnet = 0; magnet < colony.magnets; magnet++) {
-                if (partOf[magnet] == NONE) {
-                    givePolesFrom(magnet);
-                }
-            }
-        }
-
-        private void givePolesFrom(int start) {
-            partOf[start] = start;
-            givenNorth[start] = !colony.norths[start];
-            // A round that reaches no further magnet is the end, and there are few to reach.
-            for (int round = 1; round < colony.magnets; round++) {
-                for (int tunnel = 0; tunnel < colony.tunnels; tunnel++) {
-                    givePoleAcross(colony.firsts[tunnel], colony.seconds[tunnel]);
-                    givePoleAcross(colony.seconds[tunnel], colony.firsts[tunnel]);
-                }
-            }
-        }
-
-        private void givePoleAcross(int magnet, int next) {
-            if (partOf[magnet] != NONE && partOf[next] == NONE) {
-                partOf[next] = partOf[magnet];
-                givenNorth[next] = !givenNorth[magnet];
-            }
-        }
-
-        private boolean givenPolesFit() {
-            for (int tunnel = 0; tunnel < colony.tunnels; tunnel++) {
-                if (givenNorth[colony.firsts[tunnel]] == givenNorth[colony.seconds[tunnel]]) {
-                    return false;
-                }
-            }
-            return true;
-        }
-
         boolean canUniteCounterparts() {
             separateLabels();
             for (int tunnel = 0; tunnel < colony.tunnels; tunnel++) {
@@ -743,58 +714,63 @@ public final class MagnetColony {
             return true;
         }
 
-        boolean findBestTurnSet() {
-            givePoles();
+        int bestTurnSet() {
+            givenNorths = 0;
+            int seen = 0;
+            int set = 0;
             for (int magnet = 0; magnet < colony.magnets; magnet++) {
-                if (partOf[magnet] == magnet) {
-                    preferFewerTurns(magnet);
+                if (!isIn(seen, magnet)) {
+                    int part = givePolesFrom(magnet);
+                    seen |= part;
+                    set |= bestTurnSetOf(part, magnet);
                 }
             }
-            return givenPolesFit();
+            return colony.countBlockedWith(givenNorths) == 0 ? set : NONE;
         }
 
-        private void preferFewerTurns(int start) {
-            int members = 0;
-            int turned = 0;
-            for (int magnet = start; magnet < colony.magnets; magnet++) {
-                if (partOf[magnet] == start) {
-                    members++;
-                    turned += isInTurnSet(magnet) ? 1 : 0;
+        private int givePolesFrom(int start) {
+            int part = 1 << start;
+            givenNorths |= part;
+            // Each round reaches a further magnet of the part, or there is none left.
+            for (int round = 1; round < colony.magnets; round++) {
+                for (int tunnel = 0; tunnel < colony.tunnels; tunnel++) {
+                    int ends = (1 << colony.firsts[tunnel]) | (1 << colony.seconds[tunnel]);
+                    int reached = ends & ~part;
+                    if (reached == 0 || reached == ends) {
+                        continue;
+                    }
+                    part |= reached;
+                    if ((ends & givenNorths) == 0) {
+                        givenNorths |= reached;
+                    }
                 }
             }
-            // At a tie the start stays in the set: it has the lowest index of its part.
-            if (2 * turned <= members) {
-                return;
-            }
-            for (int magnet = start; magnet < colony.magnets; magnet++) {
-                if (partOf[magnet] == start) {
-                    givenNorth[magnet] = !givenNorth[magnet];
-                }
-            }
+            return part;
         }
 
-        boolean isInTurnSet(int magnet) {
-            return givenNorth[magnet] != colony.norths[magnet];
+        private int bestTurnSetOf(int part, int first) {
+            // The opposite of the given poles opens the tunnels of the part just as well.
+            int turned = part & (givenNorths ^ colony.norths);
+            int others = part ^ turned;
+            int excess = Integer.bitCount(turned) - Integer.bitCount(others);
+            if (excess == 0) {
+                return isIn(turned, first) ? turned : others;
+            }
+            return excess < 0 ? turned : others;
         }
 
         int bestTurnSetSize() {
-            if (!findBestTurnSet()) {
-                return NONE;
-            }
-            int size = 0;
-            for (int magnet = 0; magnet < colony.magnets; magnet++) {
-                size += isInTurnSet(magnet) ? 1 : 0;
-            }
-            return size;
+            int set = bestTurnSet();
+            return set == NONE ? NONE : Integer.bitCount(set);
         }
 
         int smallestSettlingSet() {
-            int norths = northSet();
             int sets = 1 << colony.magnets;
             int smallest = NONE;
             for (int set = 0; set < sets; set++) {
                 int size = Integer.bitCount(set);
-                if ((smallest == NONE || size < smallest) && blockedAmong(norths ^ set) == 0) {
+                boolean smaller = smallest == NONE || size < smallest;
+                if (smaller && colony.countBlockedWith(colony.norths ^ set) == 0) {
                     smallest = size;
                 }
             }
@@ -802,33 +778,12 @@ public final class MagnetColony {
         }
 
         int leastBlockedOfSets() {
-            int norths = northSet();
             int sets = 1 << colony.magnets;
             int least = colony.tunnels;
             for (int set = 0; set < sets; set++) {
-                least = Math.min(least, blockedAmong(norths ^ set));
+                least = Math.min(least, colony.countBlockedWith(colony.norths ^ set));
             }
             return least;
-        }
-
-        private int northSet() {
-            int norths = 0;
-            for (int magnet = 0; magnet < colony.magnets; magnet++) {
-                norths |= colony.norths[magnet] ? 1 << magnet : 0;
-            }
-            return norths;
-        }
-
-        private int blockedAmong(int norths) {
-            int count = 0;
-            for (int tunnel = 0; tunnel < colony.tunnels; tunnel++) {
-                count += areLike(norths, colony.firsts[tunnel], colony.seconds[tunnel]) ? 1 : 0;
-            }
-            return count;
-        }
-
-        private static boolean areLike(int norths, int magnet, int other) {
-            return ((norths >> magnet) & 1) == ((norths >> other) & 1);
         }
 
         int leastBlockedWithinBounds() {
@@ -853,7 +808,7 @@ public final class MagnetColony {
             int count = 0;
             for (int tunnel = 0; tunnel < colony.tunnels; tunnel++) {
                 int other = colony.otherEnd(tunnel, magnet);
-                if (other != NONE && other < magnet && areLike(norths, magnet, other)) {
+                if (other != NONE && other < magnet && colony.isBlockedWith(norths, tunnel)) {
                     count++;
                 }
             }
@@ -877,7 +832,7 @@ public final class MagnetColony {
                 if (gap != 0) {
                     float size = (float) (colony.strengths[magnet] * colony.strengths[other])
                             / (float) (gap * gap);
-                    boolean away = colony.norths[magnet] == colony.norths[other];
+                    boolean away = isIn(colony.norths, magnet) == isIn(colony.norths, other);
                     boolean upwards = away == (gap > 0);
                     sum = upwards ? sum + size : sum - size;
                 }
@@ -915,7 +870,7 @@ public final class MagnetColony {
             for (int magnet = 0; magnet < colony.magnets; magnet++) {
                 int gap = Math.abs(position - colony.positions[magnet]);
                 double size = (double) colony.strengths[magnet] / (double) (1 + gap);
-                sum = colony.norths[magnet] ? sum + size : sum - size;
+                sum = isIn(colony.norths, magnet) ? sum + size : sum - size;
             }
             return sum;
         }
@@ -1026,7 +981,7 @@ public final class MagnetColony {
             if (count == 0) {
                 return deny(ALL_OPEN, colony.tunnels);
             }
-            return survey.canGivePoles() ? ALLOWED : deny(NO_TURN_SET, count);
+            return survey.bestTurnSet() == NONE ? deny(NO_TURN_SET, count) : ALLOWED;
         }
 
         private int deny(int number, int itsDetail) {
@@ -1041,7 +996,7 @@ public final class MagnetColony {
                 case SET_STRENGTH:
                     return colony.strengthen(first, second);
                 case TURN:
-                    colony.turnOver(first);
+                    colony.turnSet(1 << first);
                     return colony.countBlocked();
                 case SHIFT:
                     return colony.turnFrom(first);
@@ -1052,20 +1007,8 @@ public final class MagnetColony {
                 case FILL:
                     return colony.remove(first);
                 default:
-                    return turnBestSet();
+                    return colony.turnSet(survey.bestTurnSet());
             }
-        }
-
-        private int turnBestSet() {
-            survey.findBestTurnSet();
-            int count = 0;
-            for (int magnet = 0; magnet < colony.magnets; magnet++) {
-                if (survey.isInTurnSet(magnet)) {
-                    colony.turnOver(magnet);
-                    count++;
-                }
-            }
-            return count;
         }
     }
 
@@ -1122,7 +1065,7 @@ public final class MagnetColony {
 
     /** The text buffer, and the commands or the fault that it was parsed to last. */
     private static final class Text {
-        // No terminal has a great letter, so these stand for what is not a terminal.
+        // No terminal has a capital letter, so these stand for what is not a terminal.
         private static final char NUMBER = 'N';
         private static final char DIGIT = 'D';
         private static final char POLE = 'P';
@@ -1228,16 +1171,16 @@ public final class MagnetColony {
         }
 
         private int widthOf(char sign, int at) {
-            switch (sign) {
-                case NUMBER:
-                    return isDigitAt(at) && isDigitAt(at + 1) ? 2 : isDigitAt(at) ? 1 : 0;
-                case DIGIT:
-                    return isDigitAt(at) ? 1 : 0;
-                case POLE:
-                    return hasAt(at, 'n') || hasAt(at, 's') ? 1 : 0;
-                default:
-                    return hasAt(at, sign) ? 1 : 0;
+            if (sign == NUMBER && isDigitAt(at) && isDigitAt(at + 1)) {
+                return 2;
             }
+            if (sign == NUMBER || sign == DIGIT) {
+                return isDigitAt(at) ? 1 : 0;
+            }
+            if (sign == POLE) {
+                return hasAt(at, 'n') || hasAt(at, 's') ? 1 : 0;
+            }
+            return hasAt(at, sign) ? 1 : 0;
         }
 
         private boolean isDigitAt(int at) {

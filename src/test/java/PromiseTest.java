@@ -527,6 +527,10 @@ public final class PromiseTest {
         Checks.due("the lowest queen", equal.queen(), 0);
         equal.addMagnet(98, 1, true);
         Checks.due("the strongest position at the end", equal.strongestPosition(), 99);
+        MagnetColony weak = new MagnetColony();
+        weak.addMagnet(50, 1, true);
+        weak.addMagnet(51, 1, false);
+        Checks.due("a strongest position with a field below 1", weak.strongestPosition(), 50);
         MagnetColony between = new MagnetColony();
         between.addMagnet(10, 5, true);
         between.addMagnet(11, 5, false);
@@ -679,6 +683,8 @@ public final class PromiseTest {
         Checks.due("the fault is kept", x.faultPosition(), 3);
         x.undo();
         Checks.due("undo leaves the fault", x.faultPosition(), 3);
+        Checks.dueThrow("execute of no text", BAD_VALUE, x::execute);
+        Checks.due("the fault of the latest wrong text", x.faultPosition(), 0);
         dueFault("", 0);
         dueFault(";", 0);
         dueFault("x", 0);
@@ -801,6 +807,10 @@ public final class PromiseTest {
         Checks.due("tunnels before dig", x.tunnelCount(), 0);
         Checks.dueThrow("undo of what is forgotten", BAD_STATE, x::undo);
         Checks.due("magnets that stay", x.magnetCount(), 2);
+        MagnetColony y = colony("nsn", 1, 2);
+        y.fill(0);
+        y.undo();
+        Checks.due("tunnels after undo of fill", line(y, 0), "0@10n1=1#2");
         undoAmongTexts();
     }
 
