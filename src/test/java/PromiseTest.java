@@ -1,14 +1,5 @@
-import java.util.NoSuchElementException;
-
 /** Each promise of the document: ordinary inputs, the edges that it names, and wrong inputs. */
-public final class PromiseTest {
-    private static final Class<?> NO_INDEX = IndexOutOfBoundsException.class;
-    private static final Class<?> BAD_VALUE = IllegalArgumentException.class;
-    private static final Class<?> DENIED = UnsupportedOperationException.class;
-    private static final Class<?> NONE = NoSuchElementException.class;
-    private static final Class<?> BAD_STATE = IllegalStateException.class;
-    private static final Class<?> NO_DIVISOR = ArithmeticException.class;
-
+public final class PromiseTest extends Samples {
     public static void main(String[] args) {
         promise01NewObject();
         promise02AddMagnet();
@@ -47,81 +38,6 @@ public final class PromiseTest {
         promises47And48Undo();
         promises49And50Snapshots();
         Checks.finish("PromiseTest");
-    }
-
-    // ---- what several tests need
-
-    /** Magnets 0, 1, .. at positions 10, 20, .. with strengths 1, 2, .. and the poles of the text. */
-    private static MagnetColony colony(String poles) {
-        MagnetColony x = new MagnetColony();
-        for (int i = 0; i < poles.length(); i++) {
-            x.addMagnet(10 * i + 10, i + 1, poles.charAt(i) == 'n');
-        }
-        return x;
-    }
-
-    /** The same with tunnels, each told by its two magnets. */
-    private static MagnetColony colony(String poles, int... tunnels) {
-        MagnetColony x = colony(poles);
-        for (int tunnel : tunnels) {
-            x.dig(tunnel / 10, tunnel % 10);
-        }
-        return x;
-    }
-
-    private static String poles(MagnetColony x) {
-        StringBuilder text = new StringBuilder();
-        for (int i = 0; i < x.magnetCount(); i++) {
-            text.append(x.pole(i));
-        }
-        return text.toString();
-    }
-
-    private static String positions(MagnetColony x) {
-        StringBuilder text = new StringBuilder();
-        for (int i = 0; i < x.magnetCount(); i++) {
-            text.append(i == 0 ? "" : " ").append(x.position(i));
-        }
-        return text.toString();
-    }
-
-    private static String line(MagnetColony x, int magnet) {
-        int length = x.writeMagnet(magnet);
-        StringBuilder text = new StringBuilder();
-        for (int i = 0; i < length; i++) {
-            text.append(x.lineCharacter(i));
-        }
-        return text.toString();
-    }
-
-    private static void feed(MagnetColony x, String text) {
-        for (int i = 0; i < text.length(); i++) {
-            x.feed(text.charAt(i));
-        }
-    }
-
-    private static void dueText(MagnetColony x, String text, int commands) {
-        feed(x, text);
-        Checks.due("execute of '" + text + "'", Checks.outcome(x::execute), String.valueOf(commands));
-    }
-
-    private static void dueFault(String text, int fault) {
-        MagnetColony x = colony("ns");
-        feed(x, text);
-        Checks.dueThrow("execute of '" + text + "'", BAD_VALUE, x::execute);
-        Checks.due("the fault of '" + text + "'", x.faultPosition(), fault);
-    }
-
-    private static void dueFailure(MagnetColony x, String text, int index, int cause) {
-        feed(x, text);
-        Checks.dueThrow("execute of '" + text + "'", DENIED, x::execute);
-        dueDenial("'" + text + "'", x, 6, index);
-        Checks.due("the cause of '" + text + "'", x.denialCause(), cause);
-    }
-
-    private static void dueDenial(String what, MagnetColony x, int number, int detail) {
-        Checks.due("denial of " + what, x.denial(), number);
-        Checks.due("denialDetail of " + what, x.denialDetail(), detail);
     }
 
     // ---- magnets
