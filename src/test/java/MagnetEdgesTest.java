@@ -43,7 +43,7 @@ public final class MagnetEdgesTest extends Samples {
         fieldInDoubleInTheOrderOfTheIndices();
         fieldAtTheLeastAndTheGreatestDistance();
         theLowestOfTheStrongestPositions();
-        strongestPositionsAtBothEnds();
+        strongestPositionsFrom0To99();
         theFieldWithoutSign();
         theQueenWithTheLowestIndex();
         aQueenBesideAFieldOf0();
@@ -530,10 +530,11 @@ public final class MagnetEdgesTest extends Samples {
         Checks.dueThrow("of no magnets", NONE, () -> new MagnetColony().strongestPosition());
     }
 
-    private static void strongestPositionsAtBothEnds() {
-        Checks.due("of one at 0", placed("0n1").strongestPosition(), 0);
-        Checks.due("of one at 99", placed("99n1").strongestPosition(), 99);
-        Checks.due("of one at 99 that is south", placed("99s1").strongestPosition(), 99);
+    private static void strongestPositionsFrom0To99() {
+        for (int position = 0; position <= 99; position++) {
+            Checks.due("of one at " + position, placed(position + "n1").strongestPosition(), position);
+            Checks.due("of a south at " + position, placed(position + "s1").strongestPosition(), position);
+        }
         Checks.due("where the fields add up", placed("50n10 52n10 54n10 49n1 55n1").strongestPosition(), 52);
         Checks.due("of equals beside each other", placed("49n9 51n9 48n9 52n9").strongestPosition(), 49);
     }

@@ -10,6 +10,7 @@ public final class TunnelEdgesTest extends Samples {
         digChecksTheMagnetsFirst();
         fillTunnelsThatExist();
         laterIndicesDecrease();
+        theSixteenthTunnelComesBack();
         whatIsFilledCanBeDugAgain();
         openBetweenUnlikePoles();
         isOpenOfTunnelsThatExist();
@@ -22,6 +23,7 @@ public final class TunnelEdgesTest extends Samples {
         settleWithoutATurnSet();
         partsOfNoneAndOfNine();
         partsByOpenAndBlockedTunnels();
+        tunnelsFromEitherSide();
         walkToItself();
         walkBetweenMagnetsThatExist();
         walkOverOpenTunnelsOnly();
@@ -29,8 +31,10 @@ public final class TunnelEdgesTest extends Samples {
         theLongestWalk();
         noBridgesAndOnlyBridges();
         bridgesAmongCircles();
+        bridgesAskedAgain();
         turnSetsOfNoMagnets();
         turnSetsOfCircles();
+        turnSetsAskedAgain();
         mostOfTheFewestTurns();
         leastBlockedOfNoneAndOfMost();
         leastBlockedOfCircles();
@@ -208,6 +212,25 @@ public final class TunnelEdgesTest extends Samples {
         Checks.dueThrow("there is no sixteenth", NO_INDEX, () -> full.isOpen(15));
     }
 
+    private static void theSixteenthTunnelComesBack() {
+        MagnetColony x = colony(north(9), FOUR_BY_FOUR);
+        x.saveSnapshot();
+        x.fill(15);
+        x.dig(8, 0);
+        Checks.due("another sixteenth", line(x, 8), "8@90n9#0");
+        x.undo();
+        x.undo();
+        Checks.due("the sixteenth after undo", line(x, 7), "7@80n8#0#1#2#3");
+        Checks.due("the other after undo", line(x, 8), "8@90n9");
+        x.fill(15);
+        x.dig(6, 8);
+        dueFailure(x, "fill 15;dig 8-1;turn 9", 2, 7);
+        Checks.due("the other after a text that failed", line(x, 8), "8@90n9#6");
+        x.restoreSnapshot();
+        Checks.due("the sixteenth of the snapshot", line(x, 3), "3@40n4#4#5#6#7");
+        Checks.due("the other after restoring", line(x, 8), "8@90n9");
+    }
+
     private static void whatIsFilledCanBeDugAgain() {
         MagnetColony x = colony("nsn", 1, 12);
         x.fill(0);
@@ -337,6 +360,25 @@ public final class TunnelEdgesTest extends Samples {
         Checks.due("a pair that is open", colony("ns", 1).parts(), 1);
     }
 
+    private static void tunnelsFromEitherSide() {
+        int[][] triangles = {{1, 12, 20}, {10, 21, 20}, {1, 2, 12}, {21, 20, 10}, {12, 2, 10}};
+        for (int[] triangle : triangles) {
+            MagnetColony x = colony("nnn", triangle);
+            Checks.due("parts", x.parts(), 1);
+            dueBridges("a triangle", x, 0);
+            dueLeast("a triangle", x, 1);
+            dueUnsettled("a triangle", x, 3);
+            x.fill(1);
+            Checks.due("parts of a path", x.parts(), 1);
+            dueBridges("a path", x, 2);
+            Checks.due("canSettle of a path", x.canSettle(), true);
+            Checks.due("canSettleByUnions of a path", x.canSettleByUnions(), true);
+            x.fill(0);
+            Checks.due("parts of a pair and another", x.parts(), 2);
+            dueBridges("a pair", x, 1);
+        }
+    }
+
     private static void walkToItself() {
         MagnetColony x = colony("nnsssnnnn", 1, 2);
         for (int magnet = 0; magnet < 9; magnet++) {
@@ -416,6 +458,20 @@ public final class TunnelEdgesTest extends Samples {
         dueBridges("a bridge whose index is the lowest", colony(north(4), 30, 1, 12, 20), 1);
     }
 
+    private static void bridgesAskedAgain() {
+        MagnetColony x = colony(north(9), path(9));
+        dueBridges("a path", x, 8);
+        dueBridges("the same path", x, 8);
+        x.dig(8, 0);
+        dueBridges("a path that is closed", x, 0);
+        x.fill(0);
+        dueBridges("a path that is opened elsewhere", x, 8);
+        x.undo();
+        x.undo();
+        x.undo();
+        dueBridges("a shorter path", x, 7);
+    }
+
     // ---- promises 23 to 28: turn sets and the least blocked
 
     private static void turnSetsOfNoMagnets() {
@@ -446,6 +502,26 @@ public final class TunnelEdgesTest extends Samples {
             dueWhere(even, "fewestTurnsBySets of a circle of " + magnets, magnets / 2, NONE, x::fewestTurnsBySets);
             dueWhere(even, "settle of a circle of " + magnets, magnets / 2, DENIED, x::settle);
         }
+    }
+
+    private static void turnSetsAskedAgain() {
+        MagnetColony x = colony("nnnn", 1, 23);
+        Checks.due("canSettle of two pairs", x.canSettle(), true);
+        Checks.due("fewestTurns of two pairs", x.fewestTurns(), 2);
+        x.fill(1);
+        x.fill(0);
+        x.dig(0, 2);
+        x.dig(1, 3);
+        dueSettled("two other pairs", x, 2, "ssnn");
+        x.dig(0, 1);
+        Checks.due("canSettle of a path", x.canSettle(), true);
+        Checks.due("canSettleByUnions of a path", x.canSettleByUnions(), true);
+        Checks.due("fewestTurns of a path", x.fewestTurns(), 2);
+        x.dig(2, 1);
+        Checks.due("canSettle with a triangle", x.canSettle(), false);
+        Checks.due("canSettleByUnions with a triangle", x.canSettleByUnions(), false);
+        x.undo();
+        dueSettled("the path again", x, 2, "nssn");
     }
 
     private static void mostOfTheFewestTurns() {
