@@ -46,6 +46,7 @@ public final class MagnetEdgesTest extends Samples {
         strongestPositionsFrom0To99();
         theFieldWithoutSign();
         theQueenWithTheLowestIndex();
+        aQueenOfEachIndex();
         aQueenBesideAFieldOf0();
         noQueenAmongNoMagnets();
         meanStrengthOfOneAndOfNine();
@@ -554,6 +555,17 @@ public final class MagnetEdgesTest extends Samples {
         Checks.due("of nine, the last", placed("0n1 1s1 10n1 11s1 20n1 21s1 30n1 31s1 90n2").queen(), 8);
         Checks.due("of nine, the first", placed("90n2 0n1 1s1 10n1 11s1 20n1 21s1 30n1 31s1").queen(), 0);
         Checks.due("of one", placed("50s1").queen(), 0);
+    }
+
+    private static void aQueenOfEachIndex() {
+        for (int queen = 0; queen < 9; queen++) {
+            MagnetColony x = placed("0n1 11n1 22n1 33n1 44n1 55n1 66n1 77n1 88n1");
+            x.setStrength(queen, 30);
+            Checks.due("queen", x.queen(), queen);
+            Checks.due("strongestPosition", x.strongestPosition(), 11 * queen);
+            x.turn(queen);
+            Checks.due("a queen that is south", x.queen(), queen);
+        }
     }
 
     private static void aQueenBesideAFieldOf0() {

@@ -31,6 +31,7 @@ public final class TunnelEdgesTest extends Samples {
         theLongestWalk();
         noBridgesAndOnlyBridges();
         bridgesAmongCircles();
+        aBridgeOfEachIndex();
         bridgesAskedAgain();
         turnSetsOfNoMagnets();
         turnSetsOfCircles();
@@ -456,6 +457,23 @@ public final class TunnelEdgesTest extends Samples {
         dueBridges("circles on both sides", colony(north(9), 1, 12, 20, 23, 34, 45, 56, 64, 78), 3);
         dueBridges("circles that share a magnet", colony(north(5), 1, 12, 20, 23, 34, 42), 0);
         dueBridges("a bridge whose index is the lowest", colony(north(4), 30, 1, 12, 20), 1);
+    }
+
+    private static void aBridgeOfEachIndex() {
+        int[] others = {12, 13, 14, 15, 16, 23, 24, 25, 26, 34, 35, 36, 45, 46, 56};
+        for (int index = 0; index < 16; index++) {
+            MagnetColony x = colony(north(9));
+            for (int other = 0; other < 16; other++) {
+                int tunnel = other == index ? 1 : others[other < index ? other : other - 1];
+                x.dig(tunnel / 10, tunnel % 10);
+            }
+            String what = "a bridge that is tunnel " + index;
+            dueBridges(what, x, 1);
+            Checks.due("parts with " + what, x.parts(), 3);
+            x.fill(index);
+            dueBridges("what is left of " + what, x, 0);
+            Checks.due("parts without " + what, x.parts(), 4);
+        }
     }
 
     private static void bridgesAskedAgain() {
